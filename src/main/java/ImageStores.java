@@ -337,11 +337,9 @@ public final class ImageStores {
             }
         }
 
-        /** The first number behind the path and all below it. */
+        /** The first number behind a legal path and all below it. */
         static int end(int path) {
             switch (names(path)) {
-                case 0:
-                    return PATHS;
                 case 1:
                     return path + 25;
                 case 2:

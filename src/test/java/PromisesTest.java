@@ -26,6 +26,7 @@ public final class PromisesTest {
         make();
         remove();
         copy();
+        lastPathBelow();
         copyKeepsNames();
         copyRefusals();
         move();
@@ -235,6 +236,23 @@ public final class PromisesTest {
         dueLayer("2: COPY into", x, 5, 4, 44, 5);
         due("2: COPY to a sister below the parent", x.build(5, COPY, 31, 32), 6);
         dueLayer("2: COPY to a sister below the parent", x, 6, 5, 32, 5);
+    }
+
+    private static void lastPathBelow() {
+        ImageStores x = new ImageStores();
+        x.build(0, WRITE, 49, 1);
+        x.build(1, WRITE, 99, 2);
+        due("2: COPY with the last path below", x.build(2, COPY, 25, 50), 3);
+        dueLayer("2: COPY with the last path below", x, 3, 2, 50, DIRECTORY, 70, DIRECTORY, 74, 1);
+        due("2: COPY with the last path below", x.build(3, COPY, 95, 60), 4);
+        dueLayer("2: COPY with the last path below", x, 4, 3, 60, DIRECTORY, 64, 2);
+        due("2: COPY to four names by the last path", x.build(4, COPY, 25, 80), REFUSED);
+        due("2: REMOVE with the last path below", x.build(4, REMOVE, 25, 0), 5);
+        dueTree("2: REMOVE with the last path below", x, 5, 50, DIRECTORY, 60, DIRECTORY, 64, 2,
+                70, DIRECTORY, 74, 1, 75, DIRECTORY, 95, DIRECTORY, 99, 2);
+        due("2: REMOVE with the last path below", x.build(5, REMOVE, 70, 0), 6);
+        dueTree("2: REMOVE with the last path below", x, 6, 50, DIRECTORY, 60, DIRECTORY, 64, 2,
+                75, DIRECTORY, 95, DIRECTORY, 99, 2);
     }
 
     private static void copyKeepsNames() {
