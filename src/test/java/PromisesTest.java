@@ -1,23 +1,5 @@
 /** For each promise of the document ordinary inputs, the edges that it names, and wrong inputs. */
-public final class PromisesTest {
-    private static final int REFUSED = -1;
-    private static final int FULL = -2;
-    private static final long ABSENT = 10000000000L;
-    private static final long DIRECTORY = 10000000001L;
-    private static final long GONE = 10000000002L;
-    private static final long NONE = 10000000003L;
-
-    private static final int WRITE = 0;
-    private static final int MAKE = 1;
-    private static final int REMOVE = 2;
-    private static final int COPY = 3;
-    private static final int MOVE = 4;
-
-    private static final int LOW = Integer.MIN_VALUE;
-    private static final int HIGH = Integer.MAX_VALUE;
-
-    private static int wrong = 0;
-
+public final class PromisesTest extends Checks {
     public static void main(String[] args) {
         constants();
         newObject();
@@ -53,43 +35,7 @@ public final class PromisesTest {
         shared();
         count();
         countAgain();
-        System.out.println(wrong == 0 ? "all promises hold" : wrong + " answers are not as due");
-        if (wrong != 0) {
-            System.exit(1);
-        }
-    }
-
-    private static void due(String call, long got, long want) {
-        if (got != want) {
-            wrong++;
-            System.out.println(call + " answered " + got + ", due is " + want);
-        }
-    }
-
-    private static void due(String call, boolean got, boolean want) {
-        due(call, got ? 1L : 0L, want ? 1L : 0L);
-    }
-
-    /** The paths present in the tree of the image, by rising path, are just these, each with its mark. */
-    private static void dueTree(String where, ImageStores x, int image, long... pathsAndMarks) {
-        int path = 0;
-        for (int i = 0; i < pathsAndMarks.length; i += 2) {
-            path = x.next(image, path);
-            due(where + ": present path", path, pathsAndMarks[i]);
-            due(where + ": look at " + path, x.look(image, path), pathsAndMarks[i + 1]);
-            if (path < 0 || path > 124) {
-                return;
-            }
-        }
-        due(where + ": behind the last path", x.next(image, path), 125);
-    }
-
-    private static void dueLayer(String where, ImageStores x, int image, int layer, long... pathsAndMarks) {
-        due(where + ": entries", x.entries(image, layer), pathsAndMarks.length / 2);
-        for (int i = 0; i < pathsAndMarks.length; i += 2) {
-            due(where + ": path of entry " + i / 2, x.entryPath(image, layer, i / 2), pathsAndMarks[i]);
-            due(where + ": mark of entry " + i / 2, x.entryMark(image, layer, i / 2), pathsAndMarks[i + 1]);
-        }
+        finish("promises");
     }
 
     private static void constants() {
@@ -142,10 +88,9 @@ public final class PromisesTest {
             legal += isLegal ? 1 : 0;
         }
         due("legal paths", legal, 84);
-        int[] wrongPaths = {LOW, -25, -1, 125, 150, 130, HIGH};
         ImageStores x = new ImageStores();
         x.build(0, MAKE, 25, 0);
-        for (int path : wrongPaths) {
+        for (int path : WRONG_PATHS) {
             for (int step = 0; step <= 4; step++) {
                 due("2: step " + step + " at " + path, x.build(1, step, path, 50), REFUSED);
             }
@@ -353,14 +298,6 @@ public final class PromisesTest {
         due("2: nothing held", x.held(0, 2), false);
     }
 
-    private static ImageStores filled() {
-        ImageStores x = new ImageStores();
-        for (int i = 0; i < 39; i++) {
-            due("2: image " + (i + 1), x.build(i, WRITE, 25 + 25 * (i % 4), i), i + 1);
-        }
-        return x;
-    }
-
     private static void buildFull() {
         ImageStores x = filled();
         due("2: a 41st image", x.build(39, MAKE, 30, 0), REFUSED);
@@ -461,12 +398,10 @@ public final class PromisesTest {
         due("4: store 1", x.tag(1, 5, 0), 40);
         due("4: store 1", x.tag(1, 0, 1), REFUSED);
         due("4: store 0 keeps its own", x.named(0, 5), 2);
-        int[] wrongStores = {LOW, -1, 2, HIGH};
-        for (int store : wrongStores) {
+        for (int store : WRONG_STORES) {
             due("4: store " + store, x.tag(store, 0, 0), REFUSED);
         }
-        int[] wrongTags = {LOW, -1, 6, HIGH};
-        for (int tag : wrongTags) {
+        for (int tag : WRONG_TAGS) {
             due("4: tag " + tag, x.tag(0, tag, 0), REFUSED);
         }
         int[] wrongImages = {LOW, -1, 3, 39, 40, HIGH};
@@ -593,8 +528,7 @@ public final class PromisesTest {
         due("7: store 1", x.collect(1), 1);
         due("7: store 1", x.held(1, 1), false);
         due("7: image 0 in store 1", x.held(1, 0), true);
-        int[] wrongStores = {LOW, -1, 2, HIGH};
-        for (int store : wrongStores) {
+        for (int store : WRONG_STORES) {
             due("7: store " + store, x.collect(store), REFUSED);
         }
     }
@@ -643,8 +577,7 @@ public final class PromisesTest {
             due("9: image " + image, x.held(0, image), false);
             due("9: image " + image, x.held(1, image), false);
         }
-        int[] wrongStores = {LOW, -1, 2, HIGH};
-        for (int store : wrongStores) {
+        for (int store : WRONG_STORES) {
             due("9: store " + store, x.held(store, 0), false);
         }
         due("9: the last image", filled().held(0, 39), true);
@@ -667,8 +600,7 @@ public final class PromisesTest {
         for (int path : notLegal) {
             due("10: path " + path, x.look(2, path), ABSENT);
         }
-        int[] wrongPaths = {LOW, -1, 125, HIGH};
-        for (int path : wrongPaths) {
+        for (int path : WRONG_PATHS) {
             due("10: path " + path, x.look(2, path), NONE);
         }
         int[] wrongImages = {LOW, -1, 3, 39, 40, HIGH};
@@ -690,8 +622,7 @@ public final class PromisesTest {
         due("11: last", x.next(2, 123), 124);
         due("11: behind the last", x.next(2, 124), 125);
         due("11: image 0", x.next(0, 0), 125);
-        int[] wrongPaths = {LOW, -1, 125, HIGH};
-        for (int path : wrongPaths) {
+        for (int path : WRONG_PATHS) {
             due("11: path " + path, x.next(2, path), REFUSED);
         }
         int[] wrongImages = {LOW, -1, 3, 39, 40, HIGH};
