@@ -25,6 +25,7 @@ public final class FaceTest {
     private static final String[] FORBIDDEN = {
         "\\bthrows?\\b", "\\btry\\b", "\\bcatch\\b", "\\bsynchronized\\b", "\\bassert\\b", "->", "::", "\\bpackage\\b",
         "\\bstatic\\s*\\{", "\\b(equals|hashCode|toString)\\b", "Exact\\b", "\\bSystem\\.(?!arraycopy\\b)",
+        "\\bArrays\\.(?!(copyOf|copyOfRange|fill)\\b)", "\\bjava\\.(?!util\\.)",
         "\\bimport\\s+(?!java\\.util\\.(ArrayList|Arrays|List|Iterator);)", "\\bprotected\\b"};
 
     private static int wrong = 0;
@@ -33,6 +34,7 @@ public final class FaceTest {
         members();
         privateNames();
         nestedClasses();
+        sizes(ImageStores.class);
         source();
         System.out.println(wrong == 0 ? "the face is the document's" : wrong + " faults");
         if (wrong != 0) {
@@ -104,10 +106,26 @@ public final class FaceTest {
             if (!Modifier.isStatic(modifiers) || Modifier.isPublic(modifiers) || Modifier.isProtected(modifiers)) {
                 fault("not a static class of its own: " + inside.getName());
             }
+            sizes(inside);
             for (Field field : inside.getDeclaredFields()) {
                 if (Modifier.isStatic(field.getModifiers()) && !Modifier.isFinal(field.getModifiers())) {
                     fault("a static field is not final: " + inside.getName() + "." + field.getName());
                 }
+            }
+        }
+    }
+
+    private static void sizes(Class<?> owner) {
+        int fields = 0;
+        for (Field field : owner.getDeclaredFields()) {
+            fields += Modifier.isStatic(field.getModifiers()) ? 0 : 1;
+        }
+        if (fields > 20) {
+            fault("too many fields: " + owner.getName());
+        }
+        for (Method method : owner.getDeclaredMethods()) {
+            if (method.getParameterCount() > 7) {
+                fault("too many parameters: " + owner.getName() + "." + method.getName());
             }
         }
     }
